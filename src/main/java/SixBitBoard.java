@@ -385,6 +385,7 @@ public final class SixBitBoard {
         static final int SIGN = 1 << 30;
         static final int FULL = SIGN - 1;
         static final int TWO_BYTES = 4095;
+        static final int LEAST_INT = 1 << 31;
         static final String LETTERS = " ABCDEFGHI~JKLMNOPQR[#STUVWXYZ0123456789.,()+-*/=$<>@;:'";
 
         // Operations have numbers in the order of these names, four letters each.
@@ -410,7 +411,7 @@ public final class SixBitBoard {
         }
 
         static int shown(int w) {
-            return w == SIGN ? Integer.MIN_VALUE : value(w);
+            return w == SIGN ? LEAST_INT : value(w);
         }
 
         /** The word of a number; what is beyond the magnitude is lost, and 0 is +0. */
@@ -652,7 +653,9 @@ public final class SixBitBoard {
         int written;
 
         Paper() {
-            Arrays.fill(row, (byte) ' ');
+            for (int i = 0; i < WIDTH; i++) {
+                row[i] = ' ';
+            }
         }
 
         void mark(int column, int letter) {
@@ -1027,6 +1030,7 @@ public final class SixBitBoard {
         static final int RUNS = 0;
         static final int HALTED = 1;
         static final int NOTHING = 9;
+        static final long FOREVER = 1L << 60;
         private static final int OUT_OF_TIME = 9;
         private static final int X = 7;
         private static final int J = 8;
@@ -1072,7 +1076,7 @@ public final class SixBitBoard {
             counter = address;
             watched = address < 0;
             control = watched;
-            limit = Long.MAX_VALUE;
+            limit = FOREVER;
             status = RUNS;
         }
 
@@ -1117,7 +1121,7 @@ public final class SixBitBoard {
             }
             if (time + u > limit) {
                 status = NOTHING;
-                units.settle(Long.MAX_VALUE);
+                units.settle(FOREVER);
                 return false;
             }
             int fault = faultAhead();
@@ -1149,7 +1153,7 @@ public final class SixBitBoard {
                 return;
             }
             status = why + 1;
-            units.settle(Long.MAX_VALUE);
+            units.settle(FOREVER);
         }
 
         private void interrupt(int why) {
@@ -1598,11 +1602,9 @@ public final class SixBitBoard {
 
         /** Goes over a letter if it is here. */
         boolean pass(int letter) {
-            if (isAtEnd() || letterHere() != letter) {
-                return false;
-            }
-            at++;
-            return true;
+            boolean isHere = at >= 0 && at < stop && at < row.length && row[at] == letter;
+            at += isHere ? 1 : 0;
+            return isHere;
         }
 
         void fail(int kind) {
@@ -1636,31 +1638,34 @@ public final class SixBitBoard {
         /** Reads letters and digits, as many as there are. */
         private int token() {
             int size = 0;
-            boolean digits = true;
-            int second = 0;
+            int letters = 0;
+            int c = 0;
             name = 0;
             number = 0;
-            for (int i = at; i < stop && i < row.length && Codes.rank(row[i]) > 0; i++) {
-                int rank = Codes.rank(row[i]);
-                size++;
-                digits &= rank <= 10;
-                if (size <= 10) {
-                    name = name << 6 | rank;
-                    number = 10 * number + rank - 1;
+            for (; at < stop && at < row.length; at++) {
+                boolean isLetter = row[at] >= 'A' && row[at] <= 'Z';
+                if (!isLetter && (row[at] < '0' || row[at] > '9')) {
+                    break;
                 }
-                digit = size == 1 ? rank - 1 : digit;
-                second = row[i];
+                c = row[at];
+                size++;
+                letters += isLetter ? 1 : 0;
+                if (size <= 10) {
+                    // The same numbers as Codes.rank has, so that names can be compared.
+                    name = name << 6 | (isLetter ? c - 'A' + 11 : c - '0' + 1);
+                    number = 10 * number + c - '0';
+                }
+                digit = size == 1 ? c - '0' : digit;
             }
-            at += size;
             if (size == 0 || size > 10) {
                 return BAD;
             }
             name <<= 6 * (10 - size);
-            if (digits) {
+            if (letters == 0) {
                 return NUMBER;
             }
-            if (size == 2 && digit < 10 && (second == 'H' || second == 'B' || second == 'F')) {
-                return second == 'H' ? HERE : second == 'B' ? BACK : AHEAD;
+            if (size == 2 && digit < 10 && (c == 'H' || c == 'B' || c == 'F')) {
+                return c == 'H' ? HERE : c == 'B' ? BACK : AHEAD;
             }
             return SYMBOL;
         }
@@ -1880,7 +1885,7 @@ public final class SixBitBoard {
                 }
                 int wrong = takeApart();
                 if (wrong == 0 && op >= 0) {
-                    wrong = op < Codes.EQU ? workInstruction() : workOther();
+                    wrong = op < Codes.EQU ? workInstruction() : op == Codes.END ? workEnd() : workOther();
                 }
                 if (wrong != 0) {
                     return wrong;
@@ -1972,9 +1977,6 @@ public final class SixBitBoard {
         }
 
         private int workOther() {
-            if (op == Codes.END) {
-                return workEnd();
-            }
             int w = 0;
             if (op == Codes.ALF) {
                 for (int i = 16; i < 21; i++) {
