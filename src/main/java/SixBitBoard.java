@@ -310,7 +310,6 @@ public final class SixBitBoard {
         machine.clear();
         units.rewind();
         layData();
-        monitor.place = 0;
         assembler.whole = false;
         if (monitor.kind != Monitor.SOURCE) {
             assembler.kind = 0;
@@ -1853,7 +1852,6 @@ public final class SixBitBoard {
             lines = 0;
             words = 0;
             start = 0;
-            kind = 0;
             whole = false;
         }
 

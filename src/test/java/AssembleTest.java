@@ -214,6 +214,13 @@ public final class AssembleTest {
         Kit.due("Y comes there too", b.word(1), 2L * (1 << 18) + 39);
         Kit.due("END's nH", Kit.assemble(b, "JMP|1F", "JMP|1F", "1H|END|0"), 2);
         Kit.due("1F", b.word(0), 2L * (1 << 18) + 39);
+        Kit.due("END's nH and another nF", Kit.assemble(b, "JMP|1F", "JMP|2F", "1H|END|0"), 3);
+        Kit.due("1F is END's", b.word(0), 2L * (1 << 18) + 39);
+        Kit.due("2F comes there", b.word(1), 2L * (1 << 18) + 39);
+        Kit.due("0H, 0F, 0B", Kit.assemble(b, "JMP|0F", "0H|CON|7", "JMP|0B", "JMP|0F", "END|0"), 5);
+        Kit.due("0F", b.word(0), 1L * (1 << 18) + 39);
+        Kit.due("0B", b.word(2), 1L * (1 << 18) + 39);
+        Kit.due("0F by itself", b.word(3), 4L * (1 << 18) + 39);
         Kit.due("words come ahead of the start", Kit.assemble(b, "JMP|FAR", "LDA|=7=", "END|FAR"), 4);
         Kit.due("it starts at FAR", b.register(11), 2);
         Kit.due("* behind them", Kit.assemble(b, "JMP|FAR", "LDA|=7=", "END|*-1"), 4);
@@ -323,6 +330,7 @@ public final class AssembleTest {
         Kit.due("run", b.run(5), 0);
         Kit.due("memory as at first", b.word(0), 0);
         Kit.due("registers as at first", b.register(0), 0);
+        Kit.due("counter as at first", b.register(11), 0);
         Kit.due("time 0", b.time(), 0);
         Kit.due("tapes stay", b.unit(3), 1);
         Kit.throwsNone("no symbols", () -> Kit.symbol(b, "A"));

@@ -48,6 +48,8 @@ public final class ErrorsTest {
         Kit.dueLines("5 ahead of 6", b, 18, "0005 5            END  0");
         b = check(Kit.source("LDA|=1=", "ORIG|4000", "END|4000", "ORIG|0", "END|0", "FOO|"), 1);
         Kit.dueLines("5 of its own does not", b, 18, "0003 5            END  4000");
+        b = check(Kit.source("ORIG|-3999", "CON|1", "END|-3999"), 0);
+        Kit.due("addresses below 0 are right", b.error(), 0);
         b = check(Kit.source("CON|1", "END|0"), 0);
         Kit.due("no error", b.error(), 0);
         Kit.due("no line", b.unit(18), 0);

@@ -14,6 +14,7 @@ public final class JobsTest {
         dump();
         errorList();
         behind();
+        stopped();
         accounts();
         none();
         many();
@@ -304,13 +305,26 @@ public final class JobsTest {
         Kit.due("the last one", Kit.line(b, 18, 5), "0006                              END  0");
         Kit.feed(b, job("*JOB A 9", Kit.source("LDA|4000", "END|0"))).jobs();
         Kit.due("FAULT's state", b.state(), 3);
-        Kit.feed(b, job("*JOB A 9", HALT) + job("*JOB B 9", Kit.source("CON|5", "FOO|"))).jobs();
+        Kit.feed(b, job("*JOB A 99", Kit.source("JMP|*+1", "ENTA|7", "HLT|", "END|0")) + job("*JOB B 9", Kit.source("CON|5", "FOO|"))).jobs();
         Kit.due("ERROR's state", b.state(), 9);
         Kit.due("memory as at first", b.word(0), 0);
-        Kit.due("counter", b.register(11), 0);
+        for (int k = 0; k <= 11; k++) {
+            Kit.due("register " + k + " as at first", b.register(k), 0);
+        }
         Kit.due("time", b.time(), 0);
         Kit.due("error", b.error(), 2);
         Kit.due("deck", b.deck(), -1);
+    }
+
+    /** When the machine stops all that began is done, by whatever it stops. */
+    private static void stopped() {
+        String read = Kit.source("IN|100(16)", "NOP|", "HLT|", "END|0");
+        Kit.due("LIMIT", run(job("*JOB A 2", read, "ABCDE"), 1).word(100), (((1L * 64 + 2) * 64 + 3) * 64 + 4) * 64 + 5);
+        Kit.due("HALT", run(job("*JOB A 99", read, "ABCDE"), 1).word(100), (((1L * 64 + 2) * 64 + 3) * 64 + 4) * 64 + 5);
+        String wrong = Kit.source("IN|100(16)", "LDA|4000", "END|0");
+        Kit.due("FAULT", run(job("*JOB A 99", wrong, "ABCDE"), 1).word(100), (((1L * 64 + 2) * 64 + 3) * 64 + 4) * 64 + 5);
+        SixBitBoard b = run(job("*JOB A 2 DUMP", read, "ABCDE"), 1);
+        Kit.due("in the dump too", Kit.line(b, 18, 10), " 0100    +0017314053    +0000000000    +0000000000    +0000000000");
     }
 
     private static void accounts() {

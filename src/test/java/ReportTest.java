@@ -84,6 +84,11 @@ public final class ReportTest {
         Kit.due("as it is now", Kit.line(b, 18, 1), "0002 +0001 +0000000000            HLT");
         Kit.due("a word put again", Kit.line(b, 18, 2), "0003 +0002 -0000000009            CON  8");
         Kit.due("again", Kit.line(b, 18, 4), "0005 +0002 -0000000009            CON  -9");
+        SixBitBoard c = new SixBitBoard();
+        Kit.assemble(c, "ORIG|3999", "CON|1", "ORIG|-3999", "CON|-0", "END|0");
+        c.listing();
+        Kit.due("3999", Kit.line(c, 18, 1), "0002 +3999 +0000000001            CON  1");
+        Kit.due("-3999", Kit.line(c, 18, 3), "0004 -3999 -0000000000            CON  -0");
         Kit.feed(b, "NEW TAPE, NO TEXT");
         b.tear();
         Kit.due("the text is kept", b.listing(), 6);
@@ -104,6 +109,11 @@ public final class ReportTest {
             "AB         +0000000000",
             "B          -0000000000 0002 0004 0008",
             "FUT        +0000000006 0005 0009");
+        Kit.assemble(b, "Z9|EQU|9", "Z09Z|EQU|-1", "9Z|EQU|0", "ZZ|EQU|5", "0Z0|EQU|1", "END|0");
+        b.tear();
+        b.names();
+        Kit.dueLines("digits ahead of letters", b, 18, "0Z0        +0000000001", "9Z         +0000000000", "Z09Z       -0000000001", "Z9         +0000000009",
+            "ZZ         +0000000005");
         StringBuilder text = new StringBuilder(Kit.source("ABCDEFGHIJ|EQU|-123"));
         for (int k = 0; k < 20; k++) {
             text.append(Kit.source("CON|ABCDEFGHIJ"));

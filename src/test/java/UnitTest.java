@@ -61,6 +61,9 @@ public final class UnitTest {
         Kit.due("u", b.time(), 5 + 400 + 400 + 1 + 10);
         Kit.due("other blocks", b.block(15, 62, 99), 0);
         Kit.due("a disk stands nowhere", b.unit(15), -1);
+        b = Kit.ran("IOC|0(8)", "HLT", "END|0");
+        Kit.due("IOC of a disk", b.state(), 1);
+        Kit.due("tapes stay", b.unit(7), 0);
     }
 
     private static void timing() {
@@ -105,6 +108,22 @@ public final class UnitTest {
         Kit.assemble(b, same);
         b.run(9);
         Kit.due("the later end last", b.word(1000), letters("TAPE1"));
+        // the reader begins at 0, the tape at 500: both are done at 1000
+        Kit.feed(b, "CARD").cards();
+        Kit.feed(b, "TAPE3").mount(3, 0);
+        Kit.assemble(b, "IN|1000(16)", "ENT1|200", "MOVE|100(63)", "MOVE|100(63)", "MOVE|100(63)", "MOVE|100(58)", "IN|1000(3)", "HLT", "END|0");
+        b.run(6);
+        Kit.due("time", b.time(), 500);
+        b.run(9);
+        Kit.due("the reader's first, the tape's behind it", b.word(1000), letters("TAPE3"));
+        // what began for an earlier program never comes
+        Kit.feed(b, "CARD").cards();
+        Kit.assemble(b, "IN|1000(16)", "IN|1100(3)", "JMP|*", "END|0");
+        b.run(3);
+        Kit.assemble(b, "ENTX|0", "IN|1200(8)", "HLT", "END|0");
+        b.run(9);
+        Kit.due("not the card", b.word(1000), 0);
+        Kit.due("the disk", b.word(1200), letters("DISK8"));
         // a store behind an IN that is not done is overwritten when it is done
         Kit.assemble(b, "ORIG|10", "IN|1000(8)", "LDA|=7=", "STA|1000", "JBUS|*(8)", "LDX|1000", "HLT", "END|10");
         b.run(1000);
