@@ -348,11 +348,12 @@ public final class AssembleTest {
 
     private static void symbols() {
         SixBitBoard b = new SixBitBoard();
-        Kit.assemble(b, "A|EQU|-0", "B|EQU|-5", "C1|EQU|1073741823", "ABCDEFGHIJ|EQU|7", "1H|EQU|3", "END|0");
+        Kit.assemble(b, "A|EQU|-0", "B|EQU|-5", "C1|EQU|1073741823", "ABCDEFGHIJ|EQU|7", "1H|EQU|3", "0ZAZ9|EQU|90", "END|0");
         Kit.due("-0", Kit.symbol(b, "A"), LEAST);
         Kit.due("-5", Kit.symbol(b, "B"), -5);
         Kit.due("greatest", Kit.symbol(b, "C1"), 1073741823);
         Kit.due("ten letters", Kit.symbol(b, "ABCDEFGHIJ"), 7);
+        Kit.due("digits and letters", Kit.symbol(b, "0ZAZ9"), 90);
         String[] none = {"", "a", "A ", " A", "A\n", "C", "C11", "ABCDEFGHIJK", "ABCDEFGHI", "1H", "1B", "B-", "Z", "12", "\u0000", "\u00e9"};
         for (String name : none) {
             Kit.throwsNone("[" + name + "]", () -> Kit.symbol(b, name));

@@ -43,7 +43,10 @@ public final class CardTest {
         }
         Kit.due("250 left", c.unit(16), 250);
         Kit.due("400 again", Kit.feed(c, ("R".repeat(10) + "\n").repeat(150)).cards(), 400);
-        for (int k = 0; k < 250; k++) {
+        c.go();
+        Kit.due("the next wide one", c.word(0), 26L * (1 + 64 + 4096 + 262144 + 16777216));
+        Kit.due("all of it", c.word(15), 26L * (1 + 64 + 4096 + 262144 + 16777216));
+        for (int k = 1; k < 250; k++) {
             c.go();
         }
         Kit.due("the last wide one", c.word(15), (((18L * 64 + 18) * 64 + 18) * 64 + 18) * 64 + 29);

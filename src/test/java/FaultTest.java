@@ -9,7 +9,9 @@ public final class FaultTest {
 
     /** Runs a line behind one that costs 1 u, and looks at where it stops. */
     private static void fault(String ahead, String what, int kind) {
-        SixBitBoard b = Kit.ran(ahead, what, "HLT", "END|0");
+        SixBitBoard b = new SixBitBoard();
+        Kit.assemble(b, ahead, what, "HLT", "END|0");
+        Kit.due(ahead + " " + what + ", done", b.run(10), kind == 0 ? 3 : 1);
         Kit.due(ahead + " " + what + ", state", b.state(), kind == 0 ? 1 : 1 + kind);
         if (kind != 0) {
             Kit.due(ahead + " " + what + ", u stays", b.time(), 1);
@@ -82,7 +84,9 @@ public final class FaultTest {
     }
 
     private static void counter() {
-        SixBitBoard b = Kit.ran("ORIG|3999", "NOP", "END|3999");
+        SixBitBoard b = new SixBitBoard();
+        Kit.assemble(b, "ORIG|3999", "NOP", "END|3999");
+        Kit.due("one is done", b.run(9), 1);
         Kit.due("4000 is out of memory", b.state(), 3);
         Kit.due("counter", b.register(11), 4000);
         Kit.due("u", b.time(), 1);

@@ -32,6 +32,9 @@ public final class InstructionTest {
         b = Kit.ran("LDA|=-1073741823=", "SUB|=1=", "HLT", "END|0");
         Kit.due("beyond below 0", b.register(0), LEAST);
         Kit.due("overflow", b.register(9), 1);
+        b = Kit.ran("LDA|=1073741822=", "ADD|=1=", "HLT", "END|0");
+        Kit.due("the greatest", b.register(0), FULL);
+        Kit.due("no overflow", b.register(9), 0);
         b = Kit.ran("LDA|=5=", "SUB|=5=", "HLT", "END|0");
         Kit.due("5 - 5 keeps +", b.register(0), 0);
         b = Kit.ran("LDA|=-5=", "ADD|=5=", "HLT", "END|0");
@@ -68,6 +71,8 @@ public final class InstructionTest {
         Kit.dueAX("A's sign counts", b, -3, -2);
         b = Kit.ran("ENNA|0", "LDX|=-17=", "DIV|=-5=", "HLT", "END|0");
         Kit.dueAX("signs of both", b, 3, -2);
+        b = Kit.ran("LDX|=-17=", "DIV|=1=", "HLT", "END|0");
+        Kit.dueAX("by 1", b, 17, 0);
         b = Kit.ran("ENTA|1", "LDX|=0=", "DIV|=2=", "HLT", "END|0");
         Kit.dueAX("ten bytes", b, 1 << 29, 0);
         b = Kit.ran("ENTA|2", "LDX|=7=", "DIV|=2=", "HLT", "END|0");
@@ -258,6 +263,10 @@ public final class InstructionTest {
         Kit.due("DECA as ADD", b.register(0), -2);
         b = Kit.ran("ENT4|-3", "ENT5|10,4", "HLT", "END|0");
         Kit.due("the index is added", b.register(5), 7);
+        for (int i = 1; i <= 6; i++) {
+            b = Kit.ran("ENT" + i + "|-3", "LDA|6," + i, "ENTX|0," + i, "HLT", "END|0");
+            Kit.dueAX("index " + i, b, 133, -3);
+        }
     }
 
     private static void comparing() {

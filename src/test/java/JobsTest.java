@@ -180,6 +180,11 @@ public final class JobsTest {
         Kit.throwsNone("no symbol", () -> Kit.symbol(b, "W"));
         Kit.due("another deck", Kit.feed(b, job("*JOB H 100", "*SAME\n")).jobs(), 1);
         Kit.due("has none ahead of it", b.account(0, 0), 4);
+        Kit.assemble(b, "A|CON|1", "END|0");
+        Kit.feed(b, job("*JOB H 100", "*LOAD\n     00000\n")).jobs();
+        Kit.due("nothing is assembled behind object cards", b.list(), -1);
+        Kit.due("behind source, then *SAME", Kit.feed(b, job("*JOB A 100", HALT) + job("*JOB B 100", "*SAME\n")).jobs(), 2);
+        Kit.due("nothing is assembled", b.listing(), -1);
         SixBitBoard c = run(job("*JOB A 100", "*LOAD\n     20003" + "0000000133" + "000000000N\n     00003\n") + job("*JOB B 100", "*SAME\n"), 2);
         Kit.due("object cards again", c.word(4), -5);
         Kit.due("start", c.register(11), 4);
@@ -257,6 +262,10 @@ public final class JobsTest {
             " 0004    +0000000133    +0000000000    +0000000000    +0000000000",
             " 0008    +0000000000    +0000000000    -0000000000    +0000000000",
             " 3996    +0000000000    +0000000000    +0000000000    -1073741823");
+        for (int k = 4; k < 8; k++) {
+            String one = Kit.source("HLT|", "ORIG|" + k, "CON|-0", "END|0");
+            Kit.due("one word of four", run(job("*JOB A 99 DUMP", one), 1).unit(18), 1 + 8 + 2);
+        }
         Kit.due("LIMIT", run(job("*JOB A 0 DUMP", HALT), 1).unit(18), 1 + 8 + 1);
         Kit.due("FAULT", run(job("*JOB A 9 DUMP", Kit.source("LDA|4000", "END|0")), 1).unit(18), 1 + 8 + 1);
         Kit.due("ERROR", run(job("*JOB A 9 DUMP", Kit.source("FOO|")), 1).unit(18), 1);

@@ -56,6 +56,10 @@ public final class ReportTest {
             "0103 -4095 63 63 63 CMPX",
             "0104 +0001 00 05 06 SRC",
             "0105 +0000 00 06 06 ?");
+        Kit.assemble(b, "ORIG|3999", "LDX|1", "END|0");
+        b.tear();
+        b.list();
+        Kit.dueLines("the last word", b, 18, "3999 +0001 00 05 15 LDX");
         b = new SixBitBoard();
         Kit.assemble(b, "STZ|1", "CON|7", "HLT|", "END|0");
         b.run(1);

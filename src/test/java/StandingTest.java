@@ -134,6 +134,12 @@ public final class StandingTest {
             "MOVE|100(63)", "MOVE|100(63)", "MOVE|100(63)", "MOVE|100(10)", "NOP", "END|-500");
         c.run(7);
         Kit.due("what is left below 2 to the power 30", c.word(-10), -20);
+        Kit.assemble(c, "OUT|0(9)", "HLT", "ORIG|90", "CON|-1073741803", "END|0");
+        c.run(9);
+        Kit.assemble(c, "ORIG|-12", "HLT", "ORIG|-10", "CON|4000", "ORIG|-500", "IN|-100(9)", "INT", "ORIG|0", "ENT1|200",
+            "MOVE|100(63)", "MOVE|100(63)", "MOVE|100(63)", "MOVE|100(10)", "NOP", "END|-500");
+        c.run(7);
+        Kit.due("0 is +0", c.word(-10), 0);
     }
 
     private static void waiting() {
