@@ -544,7 +544,7 @@ public final class SixBitBoard {
         /** The F that an operation's name stands for. */
         static int fOf(int op) {
             int c = cOf(op);
-            if (c == 0 || c >= 34 && c <= 38) {
+            if (c >= 34 && c <= 38) {
                 return 0;
             }
             if (c == 5 || c == 6) {

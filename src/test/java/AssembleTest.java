@@ -80,7 +80,7 @@ public final class AssembleTest {
             "JMP", "JSJ", "JOV", "JNOV", "JL", "JE", "JG", "JGE", "JNE", "JLE", "JAN", "JAZ", "JAP", "JANN", "JANZ", "JANP", "J1N", "J6NP",
             "JXN", "JXZ", "JXP", "JXNN", "JXNZ", "JXNP", "INCA", "DECA", "ENTA", "ENNA", "INC1", "DEC2", "ENT3", "ENN6", "INCX", "DECX", "ENTX",
             "ENNX", "CMPA", "CMP1", "CMP6", "CMPX"};
-        int[] code = {0, 501, 502, 503, 504, 5, 105, 205, 305, 6, 106, 206, 306, 406, 506, 107, 508, 509, 514, 515, 516, 519, 523, 524, 528, 531,
+        int[] code = {500, 501, 502, 503, 504, 5, 105, 205, 305, 6, 106, 206, 306, 406, 506, 107, 508, 509, 514, 515, 516, 519, 523, 524, 528, 531,
             232, 533, 34, 35, 36, 37, 38, 39, 139, 239, 339, 439, 539, 639, 739, 839, 939, 40, 140, 240, 340, 440, 540, 41, 546,
             47, 147, 247, 347, 447, 547, 48, 148, 248, 348, 49, 150, 251, 354, 55, 155, 255, 355, 556, 557, 562, 563};
         for (int k = 0; k < names.length; k++) {
@@ -88,6 +88,15 @@ public final class AssembleTest {
             Kit.due(names[k], Kit.assemble(b, names[k] + "|9", "END|0"), 1);
             Kit.due(names[k] + " 9", b.word(0), 9L * (1 << 18) + code[k] / 100 * 64 + code[k] % 100);
         }
+        SixBitBoard nops = new SixBitBoard();
+        Kit.due("NOPs", Kit.assemble(nops, "NOP|", "NOP|(0)", "NOP|,2", "NOP|(63)", "HLT|", "END|0"), 5);
+        Kit.due("NOP's own F", nops.word(0), 5 * 64);
+        Kit.due("NOP with F 0", nops.word(1), 0);
+        Kit.due("NOP with an index", nops.word(2), 2 * 4096 + 5 * 64);
+        Kit.due("NOP with F 63", nops.word(3), 63 * 64);
+        Kit.due("NOPs do nothing, whatever F is", nops.run(9), 5);
+        Kit.due("one u each", nops.time(), 14);
+        Kit.due("halted", nops.state(), 1);
         String[] refused = {"FADD", "FSUB", "FMUL", "FDIV", "FCMP", "FLOT", "FIX"};
         for (String name : refused) {
             wrong(8, 1, Kit.source(name + "|9", "END|0"));

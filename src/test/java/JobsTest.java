@@ -249,8 +249,8 @@ public final class JobsTest {
         Kit.due("the first 50", b.unit(18), 51);
         Kit.due("the 50th", Kit.line(b, 18, 49), "+0000 +0000 00 00 39 JMP  +0000000000 +0000000000 0 E 000000050");
         b = run(job("*JOB A 1 LIST TRACE", Kit.source("NOP|", "HLT|", "END|0")), 1);
-        Kit.dueLines("LIST ahead of its run", b, 18, "0000 +0000 00 00 00 NOP", "0001 +0000 00 02 05 HLT",
-            "+0000 +0000 00 00 00 NOP  +0000000000 +0000000000 0 E 000000001", line("A", "LIMIT", 0, 1, 1));
+        Kit.dueLines("LIST ahead of its run", b, 18, "0000 +0000 00 05 00 NOP", "0001 +0000 00 02 05 HLT",
+            "+0000 +0000 00 05 00 NOP  +0000000000 +0000000000 0 E 000000001", line("A", "LIMIT", 0, 1, 1));
     }
 
     private static void dump() {

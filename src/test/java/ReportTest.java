@@ -186,7 +186,7 @@ public final class ReportTest {
         Kit.due("300 stay", b.unit(18), 300);
         Kit.due("all lines", b.listing(), 401);
         Kit.due("cards", b.deck(), 59);
-        Kit.due("the last line", Kit.line(b, 18, 299), "0299 +0000 00 00 00 NOP");
+        Kit.due("the last line", Kit.line(b, 18, 299), "0299 +0000 00 05 00 NOP");
         b.tear();
         Kit.due("trace", b.trace(300), 300);
         Kit.due("lines", b.unit(18), 300);
