@@ -1982,11 +1982,14 @@ public final class SixBitBoard {
                 }
             } else {
                 w = parser.wValue();
-                parser.finish();
             }
             int n = Codes.value(w);
             if (op == Codes.ORIG && (n < lowest || n > Machine.HIGH + 1)) {
                 parser.fail(5);
+            }
+            // From the left: a value's bounds come ahead of what is behind it.
+            if (op != Codes.ALF) {
+                parser.finish();
             }
             boolean isDue = op == Codes.CON || op == Codes.ALF;
             if (isDue && location > Machine.HIGH) {
@@ -2040,10 +2043,10 @@ public final class SixBitBoard {
             int behind = placeComing();
             parser.place = behind;
             int n = Codes.value(parser.wValue());
-            parser.finish();
             if (n < lowest || n > Machine.HIGH) {
                 parser.fail(5);
             }
+            parser.finish();
             if (parser.wrong != 0) {
                 forgetComing();
                 return parser.wrong;

@@ -262,6 +262,13 @@ public final class AssembleTest {
         wrong(5, 1, Kit.source("ORIG|-4000", "END|0"));
         wrong(5, 1, Kit.source("END|4000"));
         wrong(5, 1, Kit.source("END|-4000"));
+        // from the left: the value's bounds, then what is behind it
+        wrong(5, 1, Kit.source("ORIG|4001)", "END|0"));
+        wrong(1, 1, Kit.source("ORIG|4000)", "END|0"));
+        wrong(5, 1, Kit.source("END|4000)"));
+        wrong(1, 1, Kit.source("END|3999)"));
+        wrong(5, 1, Kit.source("LDA|4096)", "END|0"));
+        wrong(1, 1, Kit.source("LDA|4095)", "END|0"));
         wrong(6, 2, Kit.source("ORIG|4000", "NOP|", "END|0"));
         wrong(6, 2, Kit.source("ORIG|4000", "ALF|", "END|0"));
         wrong(6, 2, Kit.source("ORIG|4000", "CON|1", "END|0"));
