@@ -2052,7 +2052,8 @@ public final class SixBitBoard {
                 return parser.wrong;
             }
             lines = text.line;
-            if (hasWideUse()) {
+            // L itself is within two bytes: a place behind that is one of a word that comes here.
+            if (behind - 1 > Codes.TWO_BYTES || hasWideUse()) {
                 return 5;
             }
             if (behind > location && behind > Machine.HIGH + 1) {

@@ -307,9 +307,41 @@ public final class AssembleTest {
         wrong(6, 3, Kit.source("JMP|2F", "ORIG|4000", "END|0"));
         wrong(4, 3, Kit.source("LDA|=1=", "ORIG|4000", "END|Y"));
         wrong(1, 4, Kit.source("JMP|X", "X|EQU|4096", "ORIG|4000", "END|)"));
+        placesBeyond();
         Kit.due("just in", Kit.assemble(b, "LDA|=1=", "ORIG|3999", "END|0"), 2);
         Kit.due("nothing comes at 4000", Kit.assemble(b, "NOP|", "ORIG|4000", "END|0"), 1);
         Kit.due("EQU alone", Kit.assemble(b, "EQU|5", "END|0"), 0);
+    }
+
+    /** What comes at END at 4096 or more is 5, ahead of 6: literals, symbols, an nF. */
+    private static void placesBeyond() {
+        wrong(6, 98, coming(96, "=1=", "END|0"));
+        wrong(5, 99, coming(97, "=1=", "END|0"));
+        wrong(6, 98, coming(96, "S#", "END|0"));
+        wrong(5, 99, coming(97, "S#", "END|0"));
+        wrong(6, 99, coming(97, "S", "END|0"));
+        wrong(6, 99, coming(96, "=1=", "E|EQU|4096", "END|0"));
+        wrong(6, 98, coming(95, "S#", "NOP|2F", "END|0"));
+        wrong(5, 99, coming(96, "S#", "NOP|2F", "END|0"));
+        wrong(6, 100, coming(96, "S#", "NOP|S0", "NOP|S95", "END|0"));
+        wrong(4, 99, coming(97, "=1=", "END|X"));
+        wrong(1, 99, coming(97, "=1=", "END|0)"));
+        SixBitBoard b = new SixBitBoard();
+        Kit.due("errors", Kit.feed(b, coming(97, "=1=", "END|0", "CON|D")).errors(), 1);
+        Kit.dueLines("it ends the text", b, 18, "0099 5            END  0");
+    }
+
+    /** So many instructions (# is the number of each), then these lines; the last instruction is at 3999. */
+    private static String coming(int count, String address, String... behind) {
+        int words = count;
+        for (String line : behind) {
+            words += line.startsWith("NOP") ? 1 : 0;
+        }
+        StringBuilder text = new StringBuilder(Kit.source("ORIG|" + (4000 - words)));
+        for (int k = 0; k < count; k++) {
+            text.append(Kit.source("NOP|" + address.replace("#", "" + k)));
+        }
+        return text.append(Kit.source(behind)).toString();
     }
 
     private static void errorKinds() {
