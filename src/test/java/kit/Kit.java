@@ -3,10 +3,17 @@ import java.util.NoSuchElementException;
 /** What the tests share: feeding texts, reading lines, and counting wrong answers. */
 final class Kit {
     static final long LEAST = Integer.MIN_VALUE;
+    static final String LETTERS = " ABCDEFGHI~JKLMNOPQR[#STUVWXYZ0123456789.,()+-*/=$<>@;:'";
     private static int wrong = 0;
     private static int looked = 0;
+    private static String sentence = "";
 
     private Kit() {
+    }
+
+    /** The sentence of the document that the answers behind this call are due by. */
+    static void told(String words) {
+        sentence = "\"" + words + "\" ";
     }
 
     interface Call {
@@ -17,7 +24,7 @@ final class Kit {
         looked++;
         if (got != want) {
             wrong++;
-            System.out.println(what + ": answered " + got + ", due is " + want);
+            System.out.println(sentence + what + ": answered " + got + ", due is " + want);
         }
     }
 
@@ -29,7 +36,7 @@ final class Kit {
         looked++;
         if (!got.equals(want)) {
             wrong++;
-            System.out.println(what + ": answered\n [" + got + "], due is\n [" + want + "]");
+            System.out.println(sentence + what + ": answered\n [" + got + "], due is\n [" + want + "]");
         }
     }
 
@@ -38,7 +45,7 @@ final class Kit {
         try {
             long got = call.ask();
             wrong++;
-            System.out.println(what + ": answered " + got + ", due is NoSuchElementException");
+            System.out.println(sentence + what + ": answered " + got + ", due is NoSuchElementException");
         } catch (NoSuchElementException e) {
             // as due
         }
@@ -111,6 +118,25 @@ final class Kit {
         return b;
     }
 
+    /** The word of five bytes, without a sign. */
+    static long bytes(int a, int b, int c, int d, int e) {
+        return (((a * 64L + b) * 64 + c) * 64 + d) * 64 + e;
+    }
+
+    /** The line of an instruction's word, told by its parts. */
+    static String instruction(int address, int index, int f, int c) {
+        return "CON|" + address + "(0:2)," + index + "(3:3)," + f + "(4:4)," + c + "(5:5)";
+    }
+
+    /** The word of five letters. */
+    static long letters(String five) {
+        long w = 0;
+        for (char c : five.toCharArray()) {
+            w = w * 64 + LETTERS.indexOf(c);
+        }
+        return w;
+    }
+
     static long symbol(SixBitBoard b, String name) {
         return feed(b, name).symbol();
     }
@@ -131,7 +157,7 @@ final class Kit {
         }
     }
 
-    /** Registers A, X, and the counter where it stopped. */
+    /** Registers A and X. */
     static void dueAX(String what, SixBitBoard b, long a, long x) {
         due(what + ", A", b.register(0), a);
         due(what + ", X", b.register(7), x);
