@@ -330,6 +330,10 @@ public final class EdgeMonitorTest {
         Kit.due("W", b.word(11), 6);
         b = run(job("*JOB A 50", Kit.source("LDA|4000", "END|0")) + job("*JOB B 50", same), 2);
         Kit.dueLines("of a FAULT, too", b, 18, line("A", "FAULT", 2, 0, 0), line("B", "FAULT", 2, 0, 0));
+        for (String end : new String[] {"JMP|*", "LDA|4000"}) {
+            b = run(job("*JOB A 50", Kit.source("LDA|W", "INCA|1", "STA|W", end, "W|CON|5", "END|0")) + job("*JOB B 50", same), 2);
+            Kit.due(end + ": as it was ahead of that run", b.word(4), 6);
+        }
         b = run(job("*JOB A 50", HALT) + job("*JOB B 50", "*LOAD\n     10005" + HLT + "\n     00005\n") + job("*JOB C 50", same) + job("*JOB D 50", same), 4);
         Kit.dueLines("the latest, of object cards", b, 18, line("A", "HALT", 0, 1, 10), line("B", "HALT", 0, 6, 10), line("C", "HALT", 0, 6, 10), line("D", "HALT", 0, 6, 10));
         Kit.due("nothing of A", b.word(0), 0);

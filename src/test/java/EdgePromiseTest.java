@@ -177,6 +177,15 @@ public final class EdgePromiseTest {
         b.run(2000);
         Kit.due("what began ahead of it never comes", b.word(1000), 0);
         Kit.due("what began behind it does", b.word(2000), Kit.letters("B    "));
+        for (int u = 0; u <= 15; u++) {
+            SixBitBoard c = new SixBitBoard();
+            Kit.feed(c, "X").mount(u, 0);
+            Kit.assemble(c, "IN|1000(" + u + ")", "JMP|*", "END|0");
+            c.run(2);
+            Kit.assemble(c, "IN|2000(" + (u == 5 ? 6 : 5) + ")", "HLT", "END|0");
+            c.run(9);
+            Kit.due("what began on unit " + u, c.word(1000), 0);
+        }
     }
 
     private static void putTwice() {

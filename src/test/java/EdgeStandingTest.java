@@ -23,6 +23,7 @@ public final class EdgeStandingTest {
         intLoads();
         intBytes();
         settledAhead();
+        interruptIsNoStop();
         Kit.close();
     }
 
@@ -369,5 +370,21 @@ public final class EdgeStandingTest {
         Kit.due("why comes over them", b.word(-11), 2);
         Kit.due("and the counter", b.word(-1), 0);
         Kit.due("the clock is what came", b.word(-10), Kit.letters("AAAAA"));
+    }
+
+    private static void interruptIsNoStop() {
+        Kit.told("when the machine stops all that began is done: an interrupt is no stop");
+        for (String line : new String[] {"LDA|4000", "HLT", "CON|7(3:3)", "MUL|0"}) {
+            SixBitBoard b = new SixBitBoard();
+            Kit.feed(b, "CARD").cards();
+            Kit.assemble(b, "ORIG|-12", "JMP|-50", "CON|0", "CON|11", "ORIG|-50", "LDA|1000", "NOP", "HLT", "ORIG|-500", "INT", "ORIG|0", "IN|1000(16)", line, "MUL|0", "END|-500");
+            b.run(5);
+            Kit.due(line + ": in CONTROL", b.register(11) < 0, true);
+            Kit.due(line + ": not there yet", b.word(1000), 0);
+            Kit.due(line + ": nor for LDA", b.register(0), 0);
+            b.run(9);
+            Kit.due(line + ": it halted", b.state(), 1);
+            Kit.due(line + ": there then", b.word(1000), Kit.letters("CARD "));
+        }
     }
 }
