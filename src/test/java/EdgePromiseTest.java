@@ -257,7 +257,8 @@ public final class EdgePromiseTest {
     private static void errorsLeaveNothing() {
         Kit.told("How many; nothing is assembled then, the machine is as behind an error, error() the first one's kind");
         for (boolean right : new boolean[] {true, false}) {
-            SixBitBoard b = Kit.ran("ENTA|5", "STA|300", "HLT", "END|0");
+            SixBitBoard b = Kit.ran("ENTA|5", "STA|300", "OUT|0(3)", "OUT|0(19)", "HLT", "END|0");
+            Kit.feed(b, "CARD").cards();
             String text = Kit.source("A|NOP|", right ? "HLT|" : "FOO|", right ? "HLT|" : "NOP|X+1", "END|0");
             Kit.due("how many", Kit.feed(b, text).errors(), right ? 0 : 2);
             Kit.due("error", b.error(), right ? 0 : 2);
@@ -272,6 +273,9 @@ public final class EdgePromiseTest {
             Kit.due("A", b.register(0), 0);
             Kit.due("counter", b.register(11), 0);
             Kit.due("time", b.time(), 0);
+            Kit.due("the tape stands", b.unit(3), 1);
+            Kit.due("the card stays", b.unit(16), 1);
+            Kit.due("the line stays", b.unit(19), 1);
         }
     }
 
@@ -283,6 +287,9 @@ public final class EdgePromiseTest {
             Kit.feed(b, text[k]).assemble();
             Kit.due("kind " + (k + 1), b.error(), k + 1);
         }
+        Kit.feed(b, Kit.source("END|0")).errors();
+        Kit.due("none of errors()", b.error(), 0);
+        Kit.assemble(b, "FOO");
         Kit.assemble(b, "END|0");
         Kit.due("none", b.error(), 0);
         Kit.feed(b, "*JOB A 5\n" + Kit.source("CON|X") + "*DATA\n*END\n").jobs();

@@ -355,6 +355,9 @@ public final class EdgeStandingTest {
         Kit.due("J is +0", b.register(8), 0);
         Kit.due("counter 0", b.register(11), 0);
         Kit.due("less", b.register(10), -1);
+        b = Kit.ran("ORIG|-500", "LDA|W", "INCA|1", "INT", "W|CON|1073741823", "ORIG|-12", "HLT", "ORIG|-1", "CON|1(3:3)", "END|-500");
+        Kit.due("off, where it was on", b.register(9), 0);
+        Kit.due("equal", b.register(10), 0);
     }
 
     private static void settledAhead() {
