@@ -322,7 +322,26 @@ public final class EdgeAnswerTest {
             Kit.due("used up", b.end(1), false);
         }
         Kit.throwsNone("a long tape", () -> Kit.symbol(b, "A".repeat(8000)));
+        SixBitBoard all = everySymbol();
+        for (int size = 11; size <= 22; size++) {
+            for (char last : "0123ABCDEFGHIJKLMNOPQRSTUVWXYZ".toCharArray()) {
+                String name = "A".repeat(size - 1) + last;
+                Kit.throwsNone(name, () -> Kit.symbol(all, name));
+            }
+        }
         Kit.due("A", Kit.symbol(b, "A"), 1);
+    }
+
+    /** A board with a symbol of each letter, alone and ten times. */
+    private static SixBitBoard everySymbol() {
+        StringBuilder text = new StringBuilder();
+        for (char c = 'A'; c <= 'Z'; c++) {
+            text.append(Kit.source(c + "|EQU|1", String.valueOf(c).repeat(10) + "|EQU|2", "00" + c + "|EQU|3"));
+        }
+        SixBitBoard b = new SixBitBoard();
+        Kit.feed(b, text + Kit.source("END|0")).assemble();
+        Kit.due("assembled", b.error(), 0);
+        return b;
     }
 
     private static void symbolOfError() {
